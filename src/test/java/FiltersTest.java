@@ -31,6 +31,7 @@ public final class FiltersTest {
         undoTakesAFilterFromEachDigit();
         undoLeavesRowsAfterTheEighth();
         undoGoesByTheRowAboveAsItBecame();
+        undoAtItsLastNumber();
         undoUndoesBest();
         undoRefuses();
         CHECKS.end();
@@ -348,6 +349,18 @@ public final class FiltersTest {
         CHECKS.rowDue("undone by 2", x, 1, 200, 200);
         CHECKS.rowDue("undone by 2", x, 2, 44, 44);
         CHECKS.rowDue("undone by 2", x, 3, 144, 144);
+    }
+
+    private static void undoAtItsLastNumber() {
+        RowFilters x = new RowFilters();
+        x.open(9, 1, 1);
+        x.fill(0, 0, 1 << 24);
+        // All eight by 4, which goes by the byte above where nothing stands before.
+        x.undo(390624);
+        for (int y = 0; y < 8; y++) {
+            CHECKS.rowDue("after undo(390624)", x, y, y + 1);
+        }
+        CHECKS.rowDue("after undo(390624)", x, 8, 1);
     }
 
     private static void undoUndoesBest() {

@@ -73,7 +73,7 @@ public final class RowsTest {
             {0, 1, 1}, {1, 0, 1}, {0, 0, 1}, {-1, 1, 1}, {1, -1, 1}, {-1, -1, 1}, {-64, -64, 1},
             {1, 1, 0}, {1, 1, 9}, {1, 1, -1}, {1, 1, Integer.MIN_VALUE}, {1, 1, Integer.MAX_VALUE},
             {1, 4097, 1}, {4097, 1, 1}, {64, 65, 1}, {65, 64, 1}, {3, 1366, 1}, {1366, 3, 1}, {4096, 4096, 1},
-            {65536, 65536, 1}, {65537, 65536, 1}, {1 << 30, 4, 1}, {4, 1 << 30, 1}, {1431655766, 3, 1},
+            {65536, 65536, 1}, {65537, 65536, 1}, {1 << 30, 4, 1}, {4, 1 << 30, 1}, {1431655766, 3, 1}, {3, 1431655766, 1},
             {Integer.MAX_VALUE, Integer.MAX_VALUE, 1}, {Integer.MIN_VALUE, 1, 1}, {1, Integer.MIN_VALUE, 1},
             {Integer.MIN_VALUE, Integer.MIN_VALUE, 1}, {0, Integer.MAX_VALUE, 1}, {Integer.MAX_VALUE, 0, 1}};
         RowFilters x = new RowFilters();
