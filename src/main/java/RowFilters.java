@@ -30,8 +30,8 @@ public final class RowFilters {
 
     public void open(int h, int n, int s) throws IllegalArgumentException {
         requireWithin(h, 1, MOST_BYTES);
-        // With n bounded first, h * n below cannot wrap.
         requireWithin(n, 1, MOST_BYTES);
+        // With each bounded first, the product cannot wrap.
         requireWithin(h * n, 1, MOST_BYTES);
         requireWithin(s, 1, MOST_POINT_SIZE);
         rowCount = h;

